@@ -1439,7 +1439,7 @@ public final class SpoonSet {
                             stack[n++] = names[op];
                         } else {
                             n--;
-                            stack[n - 1] = ofTwo(op, stack[n - 1], last);
+                            stack[n - 1] = op >= PLUS && op <= OVER ? reckoned(op, stack[n - 1], last) : holds(op, stack[n - 1], last) ? 1 : 0;
                         }
                         break;
                 }
@@ -1447,7 +1447,7 @@ public final class SpoonSet {
             return n == 3 ? stack[2] : 0;
         }
 
-        private static int ofTwo(int op, int a, int b) {
+        private static int reckoned(int op, int a, int b) {
             long result = 0;
             switch (op) {
                 case PLUS:
@@ -1459,13 +1459,14 @@ public final class SpoonSet {
                 case TIMES:
                     result = (long) a * b;
                     break;
-                case OVER:
+                default:
                     result = b == 0 ? 0 : (long) a / b;
                     break;
-                default:
-                    return holds(op, a, b) ? 1 : 0;
             }
-            return (int) Math.max(-MOST_RESULT, Math.min(MOST_RESULT, result));
+            if (result > MOST_RESULT) {
+                return MOST_RESULT;
+            }
+            return result < -MOST_RESULT ? -MOST_RESULT : (int) result;
         }
 
         private static boolean holds(int op, int a, int b) {
