@@ -259,7 +259,7 @@ public final class SpoonSet {
         }
         Script script = scripts[text];
         for (int i = 0; i < script.clauses; i++) {
-            if (!isDone(script.kinds[i], script.firsts[i], script.seconds[i])) {
+            if (!doClause(script.kinds[i], script.firsts[i], script.seconds[i])) {
                 return i;
             }
         }
@@ -786,6 +786,11 @@ public final class SpoonSet {
         return house >= 0 && house < HOUSES;
     }
 
+    /** Whether a token of this kind is a name of some law. */
+    private static boolean isName(int kind) {
+        return kind >= SPOON && kind <= FEELS || kind == DAY || kind == DINER;
+    }
+
     private boolean hasLayers(int spoon) {
         return isSpoon(spoon) && now.table.heights[spoon] > 0;
     }
@@ -817,7 +822,7 @@ public final class SpoonSet {
     }
 
     /** Does what a clause says; false if it can't be. */
-    private boolean isDone(int kind, int first, int second) {
+    private boolean doClause(int kind, int first, int second) {
         switch (kind) {
             case DINER:
                 return diner(first) != NONE;
@@ -1439,7 +1444,8 @@ public final class SpoonSet {
                             stack[n++] = names[op];
                         } else {
                             n--;
-                            stack[n - 1] = op >= PLUS && op <= OVER ? reckoned(op, stack[n - 1], last) : holds(op, stack[n - 1], last) ? 1 : 0;
+                            boolean sum = op >= PLUS && op <= OVER;
+                            stack[n - 1] = sum ? reckoned(op, stack[n - 1], last) : holds(op, stack[n - 1], last) ? 1 : 0;
                         }
                         break;
                 }
@@ -1448,7 +1454,7 @@ public final class SpoonSet {
         }
 
         private static int reckoned(int op, int a, int b) {
-            long result = 0;
+            long result;
             switch (op) {
                 case PLUS:
                     result = (long) a + b;
@@ -1491,10 +1497,6 @@ public final class SpoonSet {
                     return false;
             }
         }
-    }
-
-    private static boolean isName(int kind) {
-        return kind >= SPOON && kind <= FEELS || kind == DAY || kind == DINER;
     }
 
     /** A text that has been read: its clauses, and its laws as code for a stack. */
