@@ -1389,14 +1389,13 @@ public final class SpoonSet {
                     continue;
                 }
                 int feels = guests.feelings[diner * DINERS + mouth];
-                if (!law.hasFelt()) {
-                    sum += feels * table.strongAt(spoon, deep) / (deep + 1);
-                    continue;
+                int felt = feels * table.strongAt(spoon, deep) / (deep + 1);
+                if (law.hasFelt()) {
+                    nameLayer(table, spoon, deep);
+                    names[DINER] = diner;
+                    names[FEELS] = feels;
+                    felt = run(law, law.feltFrom, law.feltTo, table);
                 }
-                nameLayer(table, spoon, deep);
-                names[DINER] = diner;
-                names[FEELS] = feels;
-                int felt = run(law, law.feltFrom, law.feltTo, table);
                 sum += Math.max(-MOST_FELT, Math.min(MOST_FELT, felt));
             }
             return sum;

@@ -464,8 +464,9 @@ public final class SpoonSetAgainstModel {
     int feltOf(Text law, State s, int diner, int spoon, int deep) {
       Layer l = s.spoons.get(spoon).get(deep);
       int f = feels[diner][l.mouth];
-      if (law.felt == null) return f * l.strong / (deep + 1);
-      return Math.max(-99, Math.min(99, new Reckoner(this, s, law.felt, new int[] {s.dinner, spoon, l.mouth, l.strong, deep, 0, diner, f}).all()));
+      int says = law.felt == null ? f * l.strong / (deep + 1)
+          : new Reckoner(this, s, law.felt, new int[] {s.dinner, spoon, l.mouth, l.strong, deep, 0, diner, f}).all();
+      return Math.max(-99, Math.min(99, says));
     }
 
     int tasted(Text law, State s, int diner, int spoon) {

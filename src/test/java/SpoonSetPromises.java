@@ -439,9 +439,54 @@ public final class SpoonSetPromises {
     y.feel(1, 0, 9);
     for (int i = 0; i < 12; i++) y.eat(0, 0);
     due(10, "99 at most", y.layer(0, 0, 1), 99);
-    due(10, "felt without a law isn't held", y.eat(1, 0), 891);
+    due(10, "felt without a law is 99 at most", y.eat(1, 0), 99);
+    feltIsHeldWithoutLaw();
     moodIsHeld(9, 99999);
     moodIsHeld(-9, -99999);
+  }
+
+  /** Each layer is held by itself, once it has been cut by how deep it is; the layers together are not held. */
+  private static void feltIsHeldWithoutLaw() {
+    SpoonSet x = withDiners(5, 5, 9);
+    x.feel(2, 0, 9);
+    x.feel(2, 1, -9);
+    x.eat(0, 0);
+    x.polish(0);
+    due(10, "tastes, 90 of 10 strong", x.tastes(2, 0), 90);
+    x.polish(0);
+    due(24, "tastes, 180 held", x.tastes(2, 0), 99);
+    x.eat(1, 0);
+    due(24, "tastes, 180 by 2 and -45", x.tastes(2, 0), 90 - 45);
+    x.polish(0);
+    x.polish(0);
+    due(24, "tastes, 180 by 2 and -180 held", x.tastes(2, 0), 90 - 99);
+    due(25, "worst, held", x.best(true), -9);
+    due(49, "said, held", x.said(2, 0, -9), 1);
+    read(x, "fades 1;");
+    due(50, "whose, without felt, held", x.whose(), 1);
+    x.feel(2, 1, 9);
+    due(24, "together not held", x.tastes(2, 0), 90 + 99);
+    due(10, "together not held", x.eat(2, 0), 189);
+    due(21, "is(2)", x.is(2), 189);
+    x.feel(0, 1, -5);
+    due(10, "100 by 2", x.eat(0, 0), -50);
+    SpoonSet y = withDiners(5, 1);
+    y.feel(1, 0, 9);
+    y.eat(0, 3);
+    y.eat(0, 3);
+    y.day(1);
+    y.feel(1, 0, -9);
+    due(10, "-81 of 9 strong", y.tastes(1, 3), -81);
+    y.eat(0, 3);
+    y.day(3);
+    due(10, "-99 of 11 strong", y.tastes(1, 3), -99);
+    y.feel(1, 0, 9);
+    due(10, "99 of 11 strong", y.tastes(1, 3), 99);
+    y.eat(0, 3);
+    y.day(4);
+    due(10, "108 of 12 strong", y.tastes(1, 3), 99);
+    y.feel(1, 0, -9);
+    due(10, "-108 of 12 strong", y.eat(1, 3), -99);
   }
 
   private static void moodIsHeld(int feels, int want) {
