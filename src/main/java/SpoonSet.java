@@ -1587,14 +1587,15 @@ public final class SpoonSet {
         }
     }
 
-    /** The tape's bytes, and the token that is come to when they are read. */
+    /** The tape's bytes, and the tokens that they are cut into when they are to be read. */
     private static final class Tape {
         private final int[] bytes = new int[MOST_BYTES];
         int length;
-        int kind;
-        int number;
-        int start;
         private int next;
+        /** By a token's place among all; a byte begins at most one, and the end is one more. */
+        final int[] kinds = new int[MOST_BYTES + 1];
+        final int[] starts = new int[MOST_BYTES + 1];
+        final int[] numbers = new int[MOST_BYTES + 1];
 
         void addFour(int four) {
             for (int shift = 24; shift >= 0 && length < MOST_BYTES; shift -= 8) {
@@ -1603,25 +1604,30 @@ public final class SpoonSet {
             }
         }
 
-        void rewind() {
+        /** All at once, ahead of reading: token by token from within a law the calls would go too deep. */
+        void cutTokens() {
             next = 0;
-            step();
+            boolean ended = false;
+            for (int token = 0; token <= MOST_BYTES && !ended; token++) {
+                cutNext(token);
+                ended = kinds[token] == TEXT_END;
+            }
         }
 
-        /** Comes to the token behind this one. */
-        void step() {
+        private void cutNext(int token) {
             while (next < length && (bytes[next] == ' ' || bytes[next] == '\n')) {
                 next++;
             }
-            start = next;
+            starts[token] = next;
             if (next >= length) {
-                kind = TEXT_END;
+                kinds[token] = TEXT_END;
             } else if (isLetter(bytes[next])) {
-                readWord();
+                kinds[token] = cutWord();
             } else if (isDigit(bytes[next])) {
-                readDigits();
+                kinds[token] = NUMBER;
+                numbers[token] = cutDigits();
             } else {
-                readSign();
+                kinds[token] = cutSign();
             }
         }
 
@@ -1633,14 +1639,15 @@ public final class SpoonSet {
             return b >= '0' && b <= '9';
         }
 
-        private void readWord() {
+        private int cutWord() {
+            int start = next;
             while (next < length && isLetter(bytes[next])) {
                 next++;
             }
-            kind = wordKind();
+            return wordKind(start);
         }
 
-        private int wordKind() {
+        private int wordKind(int start) {
             int word = 0;
             int at = start;
             boolean same = true;
@@ -1660,31 +1667,35 @@ public final class SpoonSet {
             return NO_TOKEN;
         }
 
-        private void readDigits() {
-            kind = NUMBER;
-            number = 0;
+        private int cutDigits() {
+            int number = 0;
             while (next < length && isDigit(bytes[next])) {
                 // Held, so that a long row of digits stays one that is too much.
                 number = Math.min(number * 10 + bytes[next] - '0', MOST_NUMBER + 1);
                 next++;
             }
+            return number;
         }
 
-        private void readSign() {
+        private int cutSign() {
             int found = SIGNS.indexOf((char) bytes[next]);
-            kind = found < 0 ? NO_TOKEN : PLUS + found;
+            int kind = found < 0 ? NO_TOKEN : PLUS + found;
             next++;
             boolean equalFollows = next < length && bytes[next] == '=';
             if (equalFollows && (kind == LESS || kind == MORE)) {
-                kind = kind == LESS ? AT_MOST : AT_LEAST;
                 next++;
+                return kind == LESS ? AT_MOST : AT_LEAST;
             }
+            return kind;
         }
     }
 
     /** Reads the tape's tokens into a script, up to the first fault. */
     private static final class Reader {
         private final Tape tape;
+        /** The token that is come to: its place among all, and its kind. */
+        private int at;
+        private int token = TEXT_END;
         private Script out = new Script();
         private int law;
         int fault = NONE;
@@ -1699,29 +1710,37 @@ public final class SpoonSet {
             out.makeEmpty();
             fault = 0;
             faultPlace = NONE;
-            tape.rewind();
-            for (int i = 0; i <= MOST_CLAUSES && fault == 0 && tape.kind != TEXT_END; i++) {
+            tape.cutTokens();
+            comeTo(0);
+            for (int i = 0; i <= MOST_CLAUSES && fault == 0 && token != TEXT_END; i++) {
                 readClause();
             }
             return fault == 0;
         }
 
+        private void comeTo(int place) {
+            if (place >= 0 && place < tape.kinds.length) {
+                at = place;
+                token = tape.kinds[place];
+            }
+        }
+
         private boolean fail(int kind) {
             fault = kind;
-            faultPlace = tape.start;
+            faultPlace = tape.starts[at];
             return false;
         }
 
         private boolean take(int kind) {
-            if (tape.kind != kind) {
+            if (token != kind) {
                 return fail(CANNOT_STAND);
             }
-            tape.step();
+            comeTo(at + 1);
             return true;
         }
 
         private void readClause() {
-            int kind = tape.kind;
+            int kind = token;
             if (kind > DAY) {
                 fail(CANNOT_STAND);
             } else if (out.hasLaw(kind)) {
@@ -1736,7 +1755,7 @@ public final class SpoonSet {
         }
 
         private void readLaw(int kind) {
-            tape.step();
+            comeTo(at + 1);
             law = kind;
             int from = out.length();
             if (readSum(0) && take(STOP)) {
@@ -1745,7 +1764,7 @@ public final class SpoonSet {
         }
 
         private void readAct(int kind) {
-            tape.step();
+            comeTo(at + 1);
             int first = readTold(LEAST_TOLD[kind], MOST_TOLD[kind]);
             int second = 0;
             if (kind == CARD || kind == EAT) {
@@ -1759,8 +1778,8 @@ public final class SpoonSet {
 
         /** A number of a clause; none: there is a fault. */
         private int readTold(int least, int most) {
-            int number = tape.number;
-            if (tape.kind != NUMBER) {
+            int number = tape.numbers[at];
+            if (token != NUMBER) {
                 fail(CANNOT_STAND);
                 return NONE;
             }
@@ -1768,15 +1787,15 @@ public final class SpoonSet {
                 fail(WRONG_NUMBER);
                 return NONE;
             }
-            tape.step();
+            comeTo(at + 1);
             return number;
         }
 
         private boolean readSum(int open) {
             boolean good = readProduct(open);
-            for (int i = 0; i < MOST_BYTES && good && (tape.kind == PLUS || tape.kind == MINUS); i++) {
-                int sign = tape.kind;
-                tape.step();
+            for (int i = 0; i < MOST_BYTES && good && (token == PLUS || token == MINUS); i++) {
+                int sign = token;
+                comeTo(at + 1);
                 good = readProduct(open) && out.put(sign, 0);
             }
             return good;
@@ -1784,16 +1803,16 @@ public final class SpoonSet {
 
         private boolean readProduct(int open) {
             boolean good = readOne(open);
-            for (int i = 0; i < MOST_BYTES && good && (tape.kind == TIMES || tape.kind == OVER); i++) {
-                int sign = tape.kind;
-                tape.step();
+            for (int i = 0; i < MOST_BYTES && good && (token == TIMES || token == OVER); i++) {
+                int sign = token;
+                comeTo(at + 1);
                 good = readOne(open) && out.put(sign, 0);
             }
             return good;
         }
 
         private boolean readOne(int open) {
-            int kind = tape.kind;
+            int kind = token;
             if (kind == NUMBER) {
                 return readNumber();
             }
@@ -1806,7 +1825,7 @@ public final class SpoonSet {
             if (open >= MOST_OPEN) {
                 return fail(TOO_DEEP);
             }
-            tape.step();
+            comeTo(at + 1);
             switch (kind) {
                 case OPEN:
                     return readSum(open + 1) && take(CLOSE);
@@ -1820,21 +1839,21 @@ public final class SpoonSet {
         }
 
         private boolean readNumber() {
-            if (tape.number > MOST_NUMBER) {
+            if (tape.numbers[at] > MOST_NUMBER) {
                 return fail(WRONG_NUMBER);
             }
-            boolean put = out.put(NUMBER, tape.number);
-            tape.step();
+            boolean put = out.put(NUMBER, tape.numbers[at]);
+            comeTo(at + 1);
             return put;
         }
 
         private boolean readName() {
-            int kind = tape.kind;
+            int kind = token;
             boolean strange = law == FADES ? kind == DINER || kind == FEELS : kind == LAYERS;
             if (strange) {
                 return fail(WRONG_NAME);
             }
-            tape.step();
+            comeTo(at + 1);
             return out.put(kind, 0);
         }
 
@@ -1856,8 +1875,8 @@ public final class SpoonSet {
 
         private boolean readEither(int open) {
             boolean good = readBoth(open);
-            for (int i = 0; i < MOST_BYTES && good && tape.kind == OR; i++) {
-                tape.step();
+            for (int i = 0; i < MOST_BYTES && good && token == OR; i++) {
+                comeTo(at + 1);
                 good = readBoth(open) && out.put(OR, 0);
             }
             return good;
@@ -1865,30 +1884,30 @@ public final class SpoonSet {
 
         private boolean readBoth(int open) {
             boolean good = readAsk(open);
-            for (int i = 0; i < MOST_BYTES && good && tape.kind == AND; i++) {
-                tape.step();
+            for (int i = 0; i < MOST_BYTES && good && token == AND; i++) {
+                comeTo(at + 1);
                 good = readAsk(open) && out.put(AND, 0);
             }
             return good;
         }
 
         private boolean readAsk(int open) {
-            if (tape.kind == NOT) {
+            if (token == NOT) {
                 if (open >= MOST_OPEN) {
                     return fail(TOO_DEEP);
                 }
-                tape.step();
+                comeTo(at + 1);
                 return readAsk(open + 1) && out.put(NOT, 0);
             }
             if (!readSum(open)) {
                 return false;
             }
-            int sign = tape.kind;
+            int sign = token;
             boolean compares = sign >= LESS && sign <= UNLIKE || sign == AT_MOST || sign == AT_LEAST;
             if (!compares) {
                 return fail(CANNOT_STAND);
             }
-            tape.step();
+            comeTo(at + 1);
             return readSum(open) && out.put(sign, 0);
         }
     }

@@ -14,7 +14,7 @@ import java.util.regex.Matcher;
 import java.util.regex.Pattern;
 import java.util.stream.Collectors;
 
-/** Those rules of LANGUAGE.md that a look at the source and at the face can tell. */
+/** Those rules of LANGUAGE.md that the words of the source and the face can tell; see LanguageCalls for others. */
 public final class LanguageRules {
   private static final Path SOURCE = Path.of("src/main/java/SpoonSet.java");
   private static final Path DOCUMENT = Path.of("../shared/DOC.md");
@@ -33,8 +33,6 @@ public final class LanguageRules {
     classes();
     words(bare);
     fields();
-    sizes(source);
-    nothingMadeByCalls(bare);
     System.out.println(broken == 0 ? "the rules that are looked at are kept" : broken + " rules are broken");
     if (broken != 0) System.exit(1);
   }
@@ -110,29 +108,6 @@ public final class LanguageRules {
         rule(1, c != SpoonSet.class || Modifier.isPrivate(f.getModifiers()) || f.getName().equals("NONE"), f + " is not private");
       }
       rule(11, own <= 20, c + " has " + own + " fields");
-    }
-  }
-
-  private static void sizes(String source) {
-    String name = "";
-    int from = 0;
-    String[] lines = source.split("\n");
-    for (int i = 0; i < lines.length; i++) {
-      if (lines[i].matches("( {4}| {8})[a-zA-Z].*\\) \\{")) { name = lines[i].trim(); from = i; }
-      if (lines[i].matches(" {4}\\}| {8}\\}") && !name.isEmpty()) {
-        rule(11, i - from < 60, name + " has " + (i - from + 1) + " lines");
-        name = "";
-      }
-    }
-  }
-
-  /** Rows are made with the object alone, so that no run of calls fills the room. */
-  private static void nothingMadeByCalls(String bare) {
-    for (String line : bare.split("\n")) {
-      if (!Pattern.compile("\\bnew\\b").matcher(line).find()) continue;
-      boolean field = line.matches("\\s*(private |final |private final )[\\w\\[\\]]+ \\w+ = new .*;");
-      boolean constructor = line.matches("\\s*(scripts\\[i\\]|past\\[i\\]|this\\.\\w+) = new .*;");
-      rule(12, field || constructor, "made by a call: " + line.trim());
     }
   }
 }
