@@ -230,6 +230,8 @@ public final class SpoonSetPromises {
     faultIs(7, full + " ;", 0, NONE);
     faultIs(7, full + "+;", 1, 299);
     faultIs(7, full.toString(), 1, 298);
+    // As many tokens as a tape can have, with a sign, a number or no token at all as the last.
+    for (String two : new String[] {";;", ";1", "1;", "\0\0"}) faultIs(7, two.repeat(150), 1, 0);
   }
 
   private static void cannotStand() {
